@@ -86,7 +86,6 @@ public final class PromisesTest {
         return lines.toString();
     }
 
-
     private static void newObject() {
         run("promise 1", """
             count 0 = 0; count 1 = 0; count 2 = 0; count 3 = 0; count 4 = 0; count 5 = 0; count 6 = 0
@@ -123,6 +122,7 @@ public final class PromisesTest {
             link 0 2 on = 2
             link 0 3 on = 3
             link 3 0 off = 0
+            link 0 1 on = 2
             link 0 3 off = 2
             link 1 2 on = 2
             link 0 1 off = 1
@@ -714,6 +714,18 @@ public final class PromisesTest {
             halt 1 on = 2
             next 3 = -1
             next 4 = -1
+            next 0 = -1
+            """);
+        run("promise 11, the least priority is more than none", row(4), """
+            robot 0 off = 0; robot 1 off = 1; robot 2 off = 2
+            ask 1 3 5 10 1 = 1
+            robot 3 off = 3
+            await 0 3 = 0
+            next 3 = 0
+            await 1 3 = 0
+            next 3 = 1
+            pass 10 = 1
+            next 3 = 0
             """);
     }
 
@@ -961,8 +973,11 @@ public final class PromisesTest {
             count 2 = 5
             count 3 = 5
             count 6 = 3
+            ask 0 3 19 21 1 = 6
+            count 6 = 4
+            free 6 = 4
             free 2 = 3
-            count 2 = 5
+            count 2 = 6
             count 3 = 4
             count 6 = 1
             await 0 1 = 0; await 1 4 = 0
