@@ -6,25 +6,29 @@ import java.util.Map;
 
 /** Makes calls that are written as text, such as "ask 0 1 0 10 3", on any object with the document's face. */
 final class Calls {
+    /** A call's method and arguments: a run is made again so often that its text is read once. */
+    private static final class Read {
+        final Method method;
+        final Object[] arguments;
+
+        Read(Method method, Object[] arguments) {
+            this.method = method;
+            this.arguments = arguments;
+        }
+    }
+
     private static final Map<Class<?>, Map<String, Method>> METHODS = new HashMap<>();
+    private static final Map<Class<?>, Map<String, Read>> READ = new HashMap<>();
 
     private Calls() {
     }
 
     /** The answer as text: a number, true or false, or the bare name of the exception behind "throws.". */
     static String answer(Object target, String call) {
-        String[] words = call.trim().split(" +");
-        Method method = method(target.getClass(), words[0]);
-        Class<?>[] types = method.getParameterTypes();
-        if (types.length != words.length - 1) {
-            throw new AssertionError("the test calls with a wrong number of arguments: " + call);
-        }
-        Object[] arguments = new Object[types.length];
-        for (int i = 0; i < types.length; i++) {
-            arguments[i] = argument(types[i], words[i + 1]);
-        }
+        Read read = READ.computeIfAbsent(target.getClass(), type -> new HashMap<>())
+            .computeIfAbsent(call, text -> read(target.getClass(), text));
         try {
-            return String.valueOf(method.invoke(target, arguments));
+            return String.valueOf(read.method.invoke(target, read.arguments));
         } catch (InvocationTargetException e) {
             return "throws." + e.getCause().getClass().getSimpleName();
         } catch (IllegalAccessException e) {
@@ -64,6 +68,20 @@ final class Calls {
         return Integer.parseInt(answer(target, call));
     }
 
+    private static Read read(Class<?> type, String call) {
+        String[] words = call.trim().split(" +");
+        Method method = method(type, words[0]);
+        Class<?>[] types = method.getParameterTypes();
+        if (types.length != words.length - 1) {
+            throw new AssertionError("the test calls with a wrong number of arguments: " + call);
+        }
+        Object[] arguments = new Object[types.length];
+        for (int i = 0; i < types.length; i++) {
+            arguments[i] = argument(types[i], words[i + 1]);
+        }
+        return new Read(method, arguments);
+    }
+
     private static Object argument(Class<?> type, String word) {
         if (type == boolean.class) {
             if (!word.equals("on") && !word.equals("off")) {
@@ -71,7 +89,10 @@ final class Calls {
             }
             return word.equals("on");
         }
-        return Integer.valueOf(word);
+        if (word.equals("least")) {
+            return Integer.MIN_VALUE;
+        }
+        return word.equals("greatest") ? Integer.MAX_VALUE : Integer.valueOf(word);
     }
 
     private static Method method(Class<?> type, String name) {

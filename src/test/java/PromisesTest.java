@@ -1,9 +1,6 @@
-/**
- * For each promise runs of calls on a new object with the answers that are due. Around every call that is
- * refused, the whole told state is compared: what is refused changes nothing.
- */
+/** For each promise runs of calls on a new object with the answers that are due. */
 public final class PromisesTest {
-    private static int wrong = 0;
+    private static final Runs RUNS = new Runs();
 
     public static void main(String[] args) {
         newObject();
@@ -32,58 +29,15 @@ public final class PromisesTest {
         toldOfRobots();
         toldOfGrants();
         counts();
-        System.out.println(wrong == 0 ? "all answers are as due" : wrong + " answers are not as due");
-        if (wrong != 0) {
-            System.exit(1);
-        }
+        RUNS.end();
     }
 
-    /** A line is "call = answer" or "call ! refusal", the refusal by its first letters (NSE, IAE, ISE, UOE). */
     private static void run(String title, String... blocks) {
-        ReserveSteps x = new ReserveSteps();
-        for (String block : blocks) {
-            for (String line : block.strip().split("\\s*[\n;]\\s*")) {
-                boolean refused = line.contains("!");
-                String[] sides = line.split(refused ? "!" : "=");
-                check(title, x, sides[0].strip(), sides[1].strip(), refused);
-            }
-        }
+        RUNS.run(title, blocks);
     }
 
-    private static void check(String title, ReserveSteps x, String call, String word, boolean refused) {
-        String before = refused ? Calls.state(x) : "";
-        String due = refused ? "throws." + exception(word) : word;
-        String got = Calls.answer(x, call);
-        if (!got.equals(due)) {
-            wrong++;
-            System.out.println(title + ": " + call + " answered " + got + ", due is " + due);
-        }
-        if (refused && !before.equals(Calls.state(x))) {
-            wrong++;
-            System.out.println(title + ": " + call + " is refused, but changed something");
-        }
-    }
-
-    private static String exception(String letters) {
-        switch (letters) {
-            case "NSE": return "NoSuchElementException";
-            case "IAE": return "IllegalArgumentException";
-            case "ISE": return "IllegalStateException";
-            case "UOE": return "UnsupportedOperationException";
-            default: throw new AssertionError("the test names no refusal: " + letters);
-        }
-    }
-
-    /** Pieces 0 .. n - 1, each linked with the next one. */
     private static String row(int n) {
-        StringBuilder lines = new StringBuilder();
-        for (int piece = 0; piece < n; piece++) {
-            lines.append("piece = ").append(piece).append('\n');
-        }
-        for (int piece = 1; piece < n; piece++) {
-            lines.append("link ").append(piece).append(' ').append(piece - 1).append(" on = 1\n");
-        }
-        return lines.toString();
+        return Runs.row(n);
     }
 
     private static void newObject() {
