@@ -3,7 +3,8 @@ import java.util.List;
 
 /**
  * Whether two rows of calls leave their objects alike for every later call. Much of the state (links, zones,
- * who has a tail) is told by no call alone, so calls that change it are made, each set of them on new objects.
+ * who has a tail) is told by no call alone, so calls that change it are made, too. Each set of calls is made on
+ * new objects, and is short: an object is good for 512 calls.
  */
 final class Aftermath {
     private static final int MOST_PIECES = 16;
@@ -15,8 +16,8 @@ final class Aftermath {
     /** The first later call that answers otherwise, or an empty text. */
     static String firstDifference(List<String> calls, List<String> otherCalls) {
         ReserveSteps seen = made(otherCalls);
-        List<List<String>> probes = List.of(robotsAndPieces(seen), grants(seen), links(seen, true), links(seen, false),
-            zones(seen), room(seen), steps(seen), asks(seen));
+        List<List<String>> probes = List.of(robotsAndPieces(seen), grants(seen, 1, 30), grants(seen, 31, 60),
+            links(seen, true), links(seen, false), zones(seen), room(seen), stepsByGrants(seen), steps(seen), asks(seen));
         for (List<String> probe : probes) {
             ReserveSteps x = made(calls);
             ReserveSteps other = made(otherCalls);
@@ -57,10 +58,10 @@ final class Aftermath {
         return probe;
     }
 
-    private static List<String> grants(ReserveSteps x) {
+    private static List<String> grants(ReserveSteps x, int first, int last) {
         List<String> probe = new ArrayList<>();
-        for (int grant = x.count(2); grant >= 1; grant--) {
-            for (int what = 5; what >= 0; what--) {
+        for (int grant = first; grant <= Math.min(last, x.count(2)); grant++) {
+            for (int what = 0; what <= 5; what++) {
                 probe.add("grant " + grant + " " + what);
             }
         }
@@ -99,6 +100,24 @@ final class Aftermath {
         }
         for (int more = 0; more <= MOST_ROBOTS; more++) {
             probe.add("robot " + (MOST_PIECES - 1 - more) + " on");
+        }
+        return probe;
+    }
+
+    /** Steps by the grants that are there: without room for a grant no others can be made. */
+    private static List<String> stepsByGrants(ReserveSteps x) {
+        List<String> probe = new ArrayList<>();
+        for (int grant = 1; grant <= x.count(2); grant++) {
+            int robot = x.grant(grant, 0);
+            int piece = x.grant(grant, 1);
+            String step = "step " + robot + " " + piece;
+            if (x.grant(grant, 5) == 0 && !probe.contains(step)) {
+                probe.add("report " + robot);
+                probe.add("link " + x.told(robot, 0) + " " + piece + " on");
+                probe.add(step);
+                probe.add("told " + robot + " 1");
+                probe.add("pull " + robot);
+            }
         }
         return probe;
     }

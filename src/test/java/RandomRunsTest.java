@@ -9,7 +9,9 @@ public final class RandomRunsTest {
     private static final int RUNS = 400;
     private static final int CALLS = 512;
     private static final int STATES_EVERY = 100;
-    private static final int[] WILD = {-1, -2, Integer.MIN_VALUE, Integer.MAX_VALUE, 10001, 101, 61, 16, 6};
+    private static final int[] WILD = {-1, -2, Integer.MIN_VALUE, Integer.MAX_VALUE, 10000, 10001, 101, 61, 60, 16, 10, 6, 0};
+    /** So near the last time that a run comes to it. */
+    private static final int LATE = 9960;
     private static final String[] MUST_BE_SEEN = {
         "piece throws.UnsupportedOperationException", "link throws.IllegalArgumentException",
         "robot throws.IllegalStateException", "robot throws.UnsupportedOperationException",
@@ -29,12 +31,17 @@ public final class RandomRunsTest {
     private final int robotsMost;
     /** Every fourth run asks so often that it comes to sixty grants. */
     private final boolean eager;
+    private final boolean late;
+    /** Of so many numbers one is any other. */
+    private final int tameNumbers;
 
     private RandomRunsTest(int run) {
         random = new Random(run);
         piecesFirst = run % 10 == 0 ? 16 : 2 + random.nextInt(8);
         robotsMost = 1 + random.nextInt(8);
         eager = run % 4 == 0;
+        late = run % 9 == 5;
+        tameNumbers = run % 5 == 3 ? 6 : 50;
     }
 
     public static void main(String[] args) {
@@ -58,7 +65,7 @@ public final class RandomRunsTest {
     private boolean runAll(int run, Map<String, Integer> seen) {
         List<String> calls = new ArrayList<>();
         for (int i = 0; i < CALLS; i++) {
-            String call = i < 2 * piecesFirst ? layOut(i) : anyCall();
+            String call = i <= 2 * piecesFirst ? layOut(i) : anyCall();
             String due = Calls.answer(model, call);
             String got = Calls.answer(steps, call);
             calls.add(call + " = " + due);
@@ -85,9 +92,12 @@ public final class RandomRunsTest {
         return name + (answer.startsWith("-") ? " -" : " +");
     }
 
-    /** Pieces in a row, before the random calls: else most of them would be refused. */
+    /** Pieces in a row and the time, before the random calls: else most of them would be refused. */
     private String layOut(int i) {
         int piece = i - piecesFirst;
+        if (piece == piecesFirst) {
+            return "pass " + (late ? LATE : 0);
+        }
         return piece < 1 ? "piece" : "link " + piece + " " + (piece - 1) + " on";
     }
 
@@ -159,6 +169,9 @@ public final class RandomRunsTest {
     }
 
     private int maybeWild(int number) {
-        return random.nextInt(50) == 0 ? WILD[random.nextInt(WILD.length)] : number;
+        if (random.nextInt(tameNumbers) != 0) {
+            return number;
+        }
+        return random.nextInt(3) == 0 ? number + 1 - 2 * random.nextInt(2) : WILD[random.nextInt(WILD.length)];
     }
 }

@@ -12,6 +12,43 @@ public final class RefusalsTest {
         ask 1 2 0 100 1 = 2
         await 0 2 = 0
         """;
+    /**
+     * Robot 0 stands on piece 0 and with its tail on piece 1, waits for piece 3 and has not reported of late;
+     * robot 2 is halted, piece 7 closed; of grants 1 to 6 the first is used, the others freed, taken, over or live.
+     */
+    private static final String MUCH = """
+        pass 3 = 0
+        robot 1 on = 0; robot 3 off = 1; robot 5 on = 2
+        ask 0 0 3 90 5 = 1; ask 1 2 10 60 2 = 2; ask 2 2 60 80 7 = 3; ask 0 2 10 11 3 = 4
+        step 0 0 = 1
+        ask 1 4 3 9 1 = 5
+        ask 0 1 3 90 4 = 6
+        await 0 3 = 0; await 1 5 = 0
+        zone 7 on = 0
+        halt 2 on = 1
+        pass 10 = 1
+        grant 1 5 = 1; grant 2 5 = 3; grant 3 5 = 2; grant 4 5 = 0; grant 5 5 = 4; grant 6 5 = 0
+        told 0 1 = 1; told 0 2 = 3; told 0 5 = 0; told 0 6 = 3
+        """;
+    private static final String REFUSED_WHERE_MUCH_IS = """
+        link 0 0 on ! IAE; link 7 7 off ! IAE; link 16 0 on ! NSE; link 0 -1 off ! NSE
+        robot 0 off ! ISE; robot 1 off ! ISE; robot 7 on ! ISE; robot 16 on ! NSE
+        ask 6 2 10 20 9 ! NSE; ask 0 16 10 20 9 ! NSE; ask 0 2 9 20 9 ! IAE; ask 0 2 20 20 9 ! IAE
+        ask 0 2 10 111 9 ! IAE; ask 0 2 10 20 10 ! IAE; ask 2 2 10 20 9 ! ISE
+        free 1 ! ISE; free 2 ! ISE; free 3 ! ISE; free 5 ! ISE; free 0 ! NSE; free 61 ! NSE
+        meets 0 4 ! NSE; meets 4 61 ! NSE
+        step 0 0 ! IAE; step 0 2 ! IAE; step 2 4 ! ISE; step 6 1 ! NSE; step 0 16 ! NSE
+        pull 1 ! ISE; pull 2 ! ISE; pull 6 ! NSE
+        await 0 0 ! ISE; await 0 1 ! ISE; await 0 6 ! ISE; await 6 0 ! NSE; await 0 16 ! NSE
+        next 16 ! NSE
+        zone 7 on ! ISE; zone 6 off ! ISE; zone 0 on ! ISE; zone 1 on ! ISE; zone 3 off ! ISE; zone 16 on ! NSE
+        halt 0 off ! ISE; halt 2 on ! ISE; halt 6 on ! NSE
+        report 6 ! NSE
+        pass 9 ! IAE; pass 10001 ! IAE
+        holder 16 10 ! NSE; holder 0 9 ! IAE; holder 2 9 ! IAE
+        told 6 0 ! NSE; told 0 7 ! IAE; told 0 -1 ! IAE
+        grant 61 0 ! NSE; grant 4 6 ! IAE; grant 4 -1 ! IAE
+        """;
     private static final String[] NO_PIECES = {"4", "15", "16", "31", "32", "-1", "least", "greatest"};
     private static final String[] NO_ROBOTS = {"2", "5", "6", "7", "-1", "least", "greatest"};
     private static final String[] NO_GRANTS = {"0", "3", "60", "61", "62", "-1", "least", "greatest"};
@@ -27,6 +64,8 @@ public final class RefusalsTest {
         outsideItsRangeBeforeHowItIsNow();
         howItIsNowBeforeNoRoom();
         allAtOnce();
+        nothingChangedWhereMuchIsThere();
+        nothingChangedWhereAllIsFull();
         RUNS.end();
     }
 
@@ -210,6 +249,38 @@ public final class RefusalsTest {
             report 0 = true
             ask 0 1 31 39 1 ! UOE
             told 0 6 = 31
+            """);
+    }
+
+    private static void nothingChangedWhereMuchIsThere() {
+        RUNS.run("What is refused changes nothing", Runs.row(8), MUCH, REFUSED_WHERE_MUCH_IS, """
+            step 0 1 = 6
+            told 0 1 = 0
+            """);
+        RUNS.run("What is refused changes nothing, a silent robot", Runs.row(8), MUCH, """
+            pass 33 = 1
+            told 0 5 = 0
+            pass 34 = 0
+            told 0 5 = 1
+            ask 0 2 34 40 1 ! ISE
+            step 0 1 ! ISE
+            told 0 5 = 1
+            pull 0 = 1
+            told 0 5 = 0
+            """);
+    }
+
+    private static void nothingChangedWhereAllIsFull() {
+        RUNS.run("What is refused changes nothing, all places taken", Runs.row(16), MUCH, """
+            robot 9 on = 3; robot 11 off = 4; robot 13 on = 5
+            """, Runs.asks(7, 60, "ask 3 10 10 90 1"), REFUSED_WHERE_MUCH_IS, """
+            piece ! UOE
+            robot 15 on ! UOE
+            ask 0 2 10 20 9 ! UOE
+            ask 0 7 10 20 9 ! UOE
+            ask 0 3 10 20 9 ! UOE
+            step 0 1 = 6
+            told 0 1 = 0
             """);
     }
 }
