@@ -765,6 +765,35 @@ public final class BoundariesTest {
             free 2 = 1
             next 0 = 1
             """);
+        RUNS.run("promise 11: greatest priority of live grants for it, not the first, the last or all of them together",
+            Runs.pieces(5), """
+            robot 1 off = 0; robot 2 off = 1; robot 3 off = 2
+            ask 1 0 0 9 4 = 1
+            ask 1 0 9 19 5 = 2
+            ask 1 0 9 19 4 = 3
+            ask 2 0 19 29 6 = 4
+            ask 0 0 30 39 5 = 5
+            robot 0 off = 3
+            await 0 0 = 0; await 1 0 = 0
+            next 0 = 0
+            await 2 0 = 0
+            next 0 = 2
+            halt 2 on = 1
+            next 0 = 0
+            halt 0 on = 1
+            next 0 = 1
+            """);
+        RUNS.run("promise 11: of those that wait for it, halted and silent ones, too", Runs.pieces(4), """
+            robot 1 off = 0; robot 2 off = 1
+            robot 0 off = 2
+            await 0 0 = 0; await 1 0 = 0
+            halt 0 on = 0
+            next 0 = 1
+            await 0 0 = 0
+            next 0 = 0
+            pass 31 = 0
+            next 0 = 0
+            """);
     }
 
     private static void zone() {
